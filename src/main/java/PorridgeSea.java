@@ -31,9 +31,8 @@ public final class PorridgeSea {
     private static final int IMAGES = 2;
     private static final int OTHER_LIVES = -1000;
 
-    private final byte[] tape;
-    private int tapeLength;
     private final Reader reader;
+    private int tapeLength;
     private int latestFault;
     private final Sea sea;
     private final Sea spareSea;
@@ -52,9 +51,8 @@ public final class PorridgeSea {
     private int fleetBits;
 
     public PorridgeSea() {
-        tape = new byte[MOST_TAPE];
+        reader = new Reader();
         tapeLength = 0;
-        reader = new Reader(tape);
         latestFault = 0;
         sea = new Sea();
         spareSea = new Sea();
@@ -92,7 +90,7 @@ public final class PorridgeSea {
 
     private void putBytes(int four) {
         for (int shift = 24; shift >= 0 && tapeLength < MOST_TAPE; shift -= 8) {
-            tape[tapeLength] = (byte) (four >>> shift);
+            reader.tape[tapeLength] = (byte) (four >>> shift);
             tapeLength++;
         }
     }
@@ -118,7 +116,7 @@ public final class PorridgeSea {
         return lines;
     }
 
-    /** The reader takes the tape's bytes over; the tape is empty from here on. */
+    /** The reader keeps the bytes to read; the tape is empty from here on. */
     private void openTape(int mostBytes) {
         reader.open(tapeLength, mostBytes);
         tapeLength = 0;
@@ -305,7 +303,7 @@ public final class PorridgeSea {
     public int sunk() {
         int pairBytes = tapeLength;
         tapeLength = 0;
-        return sighting.look(sea, tape, pairBytes);
+        return sighting.look(sea, reader.tape, pairBytes);
     }
 
     public int sunkAt(int k) {
@@ -954,7 +952,7 @@ public final class PorridgeSea {
         private static final int WORD_LENGTH = 7;
         private static final int NUMBER_LENGTH = 3;
 
-        private final byte[] bytes;
+        final byte[] tape;
         private int length;
         private int mostBytes;
         private int place;
@@ -968,13 +966,12 @@ public final class PorridgeSea {
         int faultKind;
         int faultPlace;
 
-        Reader(byte[] tape) {
-            bytes = tape;
-            open(0, 0);
+        Reader() {
+            tape = new byte[MOST_TAPE];
         }
 
         void open(int byteCount, int most) {
-            length = Math.min(byteCount, bytes.length);
+            length = Math.min(byteCount, MOST_TAPE);
             mostBytes = most;
             place = 0;
             faultKind = 0;
@@ -983,7 +980,7 @@ public final class PorridgeSea {
         }
 
         void advance() {
-            while (place < length && (bytes[place] == ' ' || bytes[place] == '\n')) {
+            while (place < length && (tape[place] == ' ' || tape[place] == '\n')) {
                 place++;
             }
             begin = place;
@@ -993,7 +990,7 @@ public final class PorridgeSea {
                 begin = mostBytes;
             } else if (place >= length) {
                 kind = END;
-            } else if (isLetter(bytes[place]) || isDigit(bytes[place])) {
+            } else if (isLetter(tape[place]) || isDigit(tape[place])) {
                 readRun();
             } else {
                 readSign();
@@ -1014,7 +1011,7 @@ public final class PorridgeSea {
         }
 
         private void readSign() {
-            int sign = bytes[place];
+            int sign = tape[place];
             boolean known = sign == ';' || sign == '<' || sign == '=' || sign == '>' || sign == '(' || sign == ')';
             kind = known ? sign : NO_TOKEN;
             place++;
@@ -1024,12 +1021,12 @@ public final class PorridgeSea {
             int digits = 0;
             letters = 0;
             number = 0;
-            while (place < length && (isLetter(bytes[place]) || isDigit(bytes[place]))) {
-                if (isDigit(bytes[place])) {
+            while (place < length && (isLetter(tape[place]) || isDigit(tape[place]))) {
+                if (isDigit(tape[place])) {
                     digits++;
-                    number = 10 * number + bytes[place] - '0';
+                    number = 10 * number + tape[place] - '0';
                 } else {
-                    letters = letters << 8 | bytes[place];
+                    letters = letters << 8 | tape[place];
                 }
                 place++;
             }
@@ -1048,7 +1045,7 @@ public final class PorridgeSea {
             for (int w = 0; w < count; w++) {
                 int same = 0;
                 while (same < WORD_LENGTH
-                        && words.charAt(WORD_LENGTH * w + same) == (same < signs ? bytes[begin + same] : ' ')) {
+                        && words.charAt(WORD_LENGTH * w + same) == (same < signs ? tape[begin + same] : ' ')) {
                     same++;
                 }
                 if (same == WORD_LENGTH) {

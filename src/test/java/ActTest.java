@@ -113,6 +113,12 @@ final class ActTest {
         }
         Due.due("column 2 is", x.stir(1, 2, 1), 0);
         Due.due("column back", Due.cells(x), "123/564");
+        PorridgeSea back = Due.made("lump rock 1 2;boat cup 1 2 0 1;");
+        back.stir(0, 2, 1);
+        Due.due("back to the rim", back.lump(0, 0), 0);
+        Due.due("back to the rim", back.boat(0, 0), 0);
+        back.stir(0, 2, 1);
+        Due.due("over it", back.lump(0, 0), 3);
         PorridgeSea tall = Due.made("sea 2 6;thick 0 0 1;thick 0 1 2;thick 0 2 3;thick 0 3 4;thick 0 4 5;thick 0 5 6;");
         tall.stir(1, 0, 0);
         Due.due("a column of 6 on", Due.cells(tall), "60/10/20/30/40/50");
@@ -333,6 +339,8 @@ final class ActTest {
         x.stir(0, 0, 0);
         x.row(2, 0);
         x.days(3);
+        Due.book(x, "stove 9;stir row 0 on;cup east;day 2;", 0);
+        x.odds(0, 1, 1);
         Due.sea(x, SEA);
         Due.due("a new SEA", Due.state(x), Due.state(Due.made(SEA)));
         Due.due("no SENTENCE", x.said(-1), -1);

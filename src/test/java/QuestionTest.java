@@ -104,6 +104,9 @@ final class QuestionTest {
         Due.due("meetAt(1, 0)", y.meetAt(1, 0), 1);
         Due.due("meetAt(1, 1)", y.meetAt(1, 1), 1);
         Due.due("meetAt(1, 2)", y.meetAt(1, 2), 0);
+        PorridgeSea four = Due.made("sea 6 6;lump rock 3 2;boat cup 0 0 0 1;");
+        Due.due("four are too many", four.meet(0, 0), -1);
+        Due.due("none ahead of any", four.meetAt(0, 0), -1);
         PorridgeSea z = Due.made("sea 6 6;lump rock 2 0;boat cup 2 0 0 1;");
         Due.due("in one cell", z.meet(0, 0), 0);
     }
@@ -158,6 +161,9 @@ final class QuestionTest {
         Due.sunk(x, 2, 1);
         Due.due("two cells, parted", x.send(), 1);
         x.flour(0, 1, 9);
+        PorridgeSea wide = Due.made("sea 6 6;boat a 0 0 0 1;");
+        Due.due("36 cells", Due.sunk(wide, 0, 1), 36);
+        Due.due("all are left", wide.send(), 0);
         Due.due("as it was then", x.send(), 1);
         Due.due("the cells, too", x.sunkAt(0), 6);
     }
@@ -189,6 +195,10 @@ final class QuestionTest {
         x.milk(4, 1, 1);
         Due.due("24 by 6", x.mean(1, 0), 4);
         Due.due("24 by 6", x.mean(1, 1), 1);
+        x.flour(0, 1, 1);
+        x.flour(0, 2, 1);
+        Due.due("14 by 6 still", x.mean(0, 0), 7);
+        Due.due("25 by 6", x.mean(1, 0), 25);
         Due.meanThrows(x, 3, 0);
         Due.meanThrows(x, -1, 0);
         Due.meanThrows(x, 0, 2);
@@ -299,6 +309,13 @@ final class QuestionTest {
         Due.due("drawn(5, 1) at 400", x.drawn(5, 1), 0);
     }
 
+    /** Whether a BOAT is EATEN behind n DAYS. */
+    private static int drawnTo(int b, int n, int seed) {
+        PorridgeSea x = Due.made(FLOTILLA);
+        x.drawn(n, seed);
+        return x.boat(b, 6);
+    }
+
     private static void oddsOfABoat() {
         int between = 0;
         for (int b = 0; b < 6; b++) {
@@ -321,6 +338,14 @@ final class QuestionTest {
         Due.due("no such BOAT", x.odds(-1, 1, 1), -1);
         Due.due("n of 0", x.odds(0, 0, 1), -1);
         Due.due("n of 31", x.odds(0, 31, 1), -1);
+        Due.due("n of 1", x.odds(5, 1, 5000), drawnTo(5, 20, 5000));
+        int parted = 0;
+        for (int seed = 0; seed < 200; seed++) {
+            int by20 = drawnTo(3, 20, seed);
+            parted += by20 != drawnTo(3, 21, seed) || by20 != drawnTo(3, 19, seed) ? 1 : 0;
+            Due.due("odds by one seed", x.odds(3, 1, seed), by20);
+        }
+        Due.due("a DAY more or less would tell", parted > 0, true);
         PorridgeSea y = Due.made("cools 0;boat a 0 0 9 1;");
         Due.due("all of them", y.odds(0, 7, Integer.MAX_VALUE), 7);
         y.days(3);

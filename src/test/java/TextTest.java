@@ -183,6 +183,7 @@ final class TextTest {
         seaFault(blanks(899) + "heat 5;", 1, 900);
         seaFault(blanks(899) + "hear 5;", 1, 899);
         seaFault(blanks(894) + "heat 31;", 2, 899);
+        seaFault(blanks(895) + "heat 31;", 1, 900);
         seaFault(blanks(900) + "?", 1, 900);
         seaFault(blanks(899) + "?" + blanks(20), 1, 899);
         seaFault(blanks(890) + "heat 5" + blanks(4), 1, 900);
@@ -220,6 +221,12 @@ final class TextTest {
         bookFault("stir 1 on;", 1, 5);
         bookFault("stir rows 1 on;", 1, 5);
         bookFault("stir row on;", 1, 9);
+        bookFault("stir stir 1 on;", 1, 5);
+        bookFault("stir on 1 on;", 1, 5);
+        bookFault("stir row 1 column;", 1, 11);
+        bookFault("stir row 1 east;", 1, 11);
+        bookFault("cup flour;", 1, 4);
+        bookFault("cup back;", 1, 4);
         bookFault("stir row 6 on;", 2, 9);
         bookFault("stir column 6 on;", 2, 12);
         bookFault("stir row 5 off;", 1, 11);
@@ -303,6 +310,10 @@ final class TextTest {
         sentenceFault(twenty + " and (", 4, twenty.length() + 5);
         sentenceFault(twenty + " and by ?", 4, twenty.length() + 5);
         sentenceFault(twenty + " and", 1, twenty.length() + 4);
+        PorridgeSea small = Due.made("lump r 0 0;");
+        Due.due("20 ONES by and", Due.sentence(small, "by r" + " and by r".repeat(19)), 20);
+        Due.due("21 ONES by and", Due.sentence(small, "by r" + " and by r".repeat(20)), -1 - 180);
+        Due.due("its kind", small.fault(), 4);
         Due.due("8 within", Due.sentence(x, "(((((((eaten)))))))"), 8);
         Due.due("8 within by not", Due.sentence(x, "not ".repeat(7) + "afloat"), 8);
         Due.due("8 within, twice", Due.sentence(x, "((((((not eaten)))))) and not(((((not afloat)))))"), 16);
