@@ -347,6 +347,11 @@ final class ActTest {
         Due.due("nothing to undo", x.undo(), -1);
         x.stir(0, 0, 0);
         Due.sentence(x, "afloat");
+        PorridgeSea y = Due.made("sea 6 6;cools 0;thick 0 0 1;thick 5 5 1;boat cup 1 1 9 1;");
+        Due.book(y, "day 2;", 0);
+        Due.sea(y, "sea 6 6;boat cup 1 1 9 1;");
+        Due.due("no BOAT has sunk", y.boat(0, 5), 0);
+        Due.due("all of it thin", y.now(5), 0);
         Due.sea(x, "?");
         Due.due("the SENTENCE stays", x.said(-1) >= 0, true);
         Due.due("acts stay", x.undo(), 0);

@@ -7,6 +7,7 @@ final class TextTest {
 
     public static void main(String[] args) {
         tapeIsFed();
+        endCutsTokens();
         seasWithoutFault();
         seaTokens();
         seaNumbers();
@@ -42,6 +43,19 @@ final class TextTest {
         Due.due("heat", y.now(1), 7);
         Due.due("cools", y.count(4), 4);
         Due.due("the tape behind sea()", y.count(6), 0);
+    }
+
+    /** What stands behind the end of the tape is not read. */
+    private static void endCutsTokens() {
+        PorridgeSea x = new PorridgeSea();
+        Due.tape(x, "heat 5;cools").end(7);
+        Due.due("cut behind a LINE", x.sea(), 1);
+        Due.tape(x, "eatenx").end(5);
+        Due.due("cut within letters", x.sentence(), 1);
+        Due.tape(x, "load < 199").end(8);
+        Due.due("cut within digits", x.sentence(), 1);
+        Due.tape(x, "heat    ").end(5);
+        Due.due("cut within blanks", x.sea(), -1 - 5);
     }
 
     private static void seasWithoutFault() {
