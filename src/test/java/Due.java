@@ -3,6 +3,15 @@ import java.util.NoSuchElementException;
 
 /** What the tests share: answers that are due, and texts put on the tape. */
 final class Due {
+    /** Numbers that are none of a SEA's: far off, and such as come near when bits are cut off. */
+    static final int[] FAR = {Integer.MIN_VALUE, Integer.MIN_VALUE + 1, -65536, -256, -7, -2, 64, 256, 65536,
+        0x01000000, Integer.MAX_VALUE - 1, Integer.MAX_VALUE};
+
+    /** What a text on the tape is read as. */
+    static final int SEA = 0;
+    static final int BOOK = 1;
+    static final int SENTENCE = 2;
+
     private static int asked = 0;
     private static int wrong = 0;
 
@@ -87,6 +96,44 @@ final class Due {
 
     static int sentence(PorridgeSea x, String text) {
         return tape(x, text).sentence();
+    }
+
+    static int read(PorridgeSea x, int how, String text) {
+        return how == SEA ? sea(x, text) : how == BOOK ? book(x, text, 1) : sentence(x, text);
+    }
+
+    /** The text is read without a FAULT, with this answer. */
+    static void fine(PorridgeSea x, int how, String text, int answer) {
+        due("the answer to '" + text + "'", read(x, how, text), answer);
+        due("fault() of '" + text + "'", x.fault(), 0);
+        due("the tape behind '" + text + "'", x.count(6), 0);
+    }
+
+    /** The text has this FAULT, and leaves all as it was. */
+    static void fault(PorridgeSea x, int how, String text, int kind, int place) {
+        String before = state(x);
+        due("the answer to '" + text + "'", read(x, how, text), (how == BOOK ? -2 : -1) - place);
+        due("fault() of '" + text + "'", x.fault(), kind);
+        due("the tape behind '" + text + "'", x.count(6), 0);
+        due("all stays behind '" + text + "'", state(x), before);
+    }
+
+    /** A text of one number that is as told from least to most: the FAULT else is at the number. */
+    static void range(PorridgeSea x, int how, String ahead, String behind, int least, int most) {
+        int[] far = {least - 1, least, most, most + 1, 99, 100, 998, 999};
+        for (int n : far) {
+            String text = ahead + n + behind;
+            if (n >= least && n <= most) {
+                due("'" + text + "' has a FAULT", read(x, how, text) < (how == BOOK ? -1 : 0), false);
+            } else if (n >= 0) {
+                fault(x, how, text, 2, ahead.length());
+            }
+        }
+        fault(x, how, ahead + "?" + behind, 1, ahead.length());
+        fault(x, how, ahead + "0000" + behind, 1, ahead.length());
+        fault(x, how, ahead + least + "a" + behind, 1, ahead.length());
+        fault(x, how, ahead + "east" + behind, 1, ahead.length());
+        fault(x, how, ahead, 1, ahead.length());
     }
 
     static int sunk(PorridgeSea x, int... pairs) {
