@@ -6,6 +6,7 @@ final class QuestionEdgeTest {
     public static void main(String[] args) {
         noSuchWay();
         aWayOfNoSteps();
+        waysOfLikeCost();
         aWayByAllSpoons();
         theLongestWay();
         notOverTheRim();
@@ -77,6 +78,28 @@ final class QuestionEdgeTest {
         Due.due("it is there", x.way(0, 0), 0);
         Due.due("DAYS", x.wayDays(), 0);
         Due.due("no STEP", x.wayAt(0), -1);
+    }
+
+    /** "of like ones the fewest STEPS; then the first: STEP by STEP the least SIDE" */
+    private static void waysOfLikeCost() {
+        String[] texts = {"sea 3 3;thick 0 1 %;lump r 0 2;boat c 0 0 0 9;", "sea 3 3;thick 1 2 %;lump r 0 2;boat c 2 2 0 9;",
+            "sea 3 3;thick 2 1 %;lump r 2 0;boat c 2 2 0 9;", "sea 3 3;thick 1 0 %;lump r 2 0;boat c 0 0 0 9;"};
+        String[] shorter = {"11", "22", "33", "00"};
+        String[] longer = {"0112", "3221", "2330", "1003"};
+        for (int i = 0; i < texts.length; i++) {
+            for (int thick = 1; thick <= 9; thick++) {
+                PorridgeSea x = Due.made(texts[i].replace("%", "" + thick));
+                Due.due("way " + i + " by " + thick, x.way(0, 0), Math.min(4, 2 + thick / 3));
+                Due.due("its SIDES", Due.sides(x), thick < 9 ? shorter[i] : longer[i]);
+            }
+        }
+        PorridgeSea x = Due.made("sea 3 3;thick 1 1 9;lump a 2 2;lump b 0 0;lump c 0 2;lump d 2 0;"
+                + "boat e 0 0 0 9;boat f 2 2 0 9;boat g 2 0 0 9;boat h 0 2 0 9;");
+        String[] sides = {"0011", "2233", "1122", "0033"};
+        for (int b = 0; b < 4; b++) {
+            Due.due("round the middle", x.way(b, b), 4);
+            Due.due("the least SIDE first", Due.sides(x), sides[b]);
+        }
     }
 
     /** "none of them more than all its SPOONS": just as many do, one fewer do not. */

@@ -4,6 +4,7 @@ final class SeaEdgeTest {
     }
 
     public static void main(String[] args) {
+        aNewObjectBesideOthers();
         sizes();
         cellsOfEverySize();
         sizeOnceAndAhead();
@@ -35,6 +36,32 @@ final class SeaEdgeTest {
 
     private static void range(String ahead, String behind, int least, int most) {
         Due.range(new PorridgeSea(), Due.SEA, ahead, behind, least, most);
+    }
+
+    /** Promise 1: "A SEA of 4 by 4, all of it thin, without LUMPS and BOATS; an empty tape." */
+    private static void aNewObjectBesideOthers() {
+        PorridgeSea other = Due.made("sea 6 6;heat 30;thick 5 5 9;lump a 0 0;lump b 3 3;boat c 2 2 1 1;");
+        other.image(0);
+        other.image(1);
+        other.way(0, 0);
+        other.meet(0, 0);
+        other.fleet(1);
+        other.chart(0);
+        other.stove(1);
+        Due.sunk(other, 0, 1);
+        Due.book(other, "flour 0 0 1;milk 5 5 9;milk 5 5 1;", 1);
+        Due.sentence(other, "landed");
+        other.feed(1, 2, 3, 4, 5);
+        PorridgeSea x = new PorridgeSea();
+        Due.due("a new object", Due.state(x), "0000/0000/0000/0000 0 10 0 0 0 0 0 0 4 4 0 0 1 3");
+        int[] told = {x.count(6), x.fault(), x.undo(), x.wayAt(0), x.wayDays(), x.meetAt(0, 0), x.sunkAt(0), x.send(),
+            x.fleets(), x.byteAt(0), x.told(0), x.told(1), x.told(2), x.told(3), x.said(-1), x.said(0)};
+        for (int i = 0; i < told.length; i++) {
+            Due.due("answer " + i + " of a new object", told[i], i < 2 ? 0 : -1);
+        }
+        Due.due("nothing is kept", x.restore(0) || x.restore(1), false);
+        Due.due("the other's tape", other.count(6), 20);
+        Due.due("the other's thickness", other.now(5), 1);
     }
 
     /** "'sea' WIDE HIGH (2 to 6 each; .. 4 by 4 without)" */

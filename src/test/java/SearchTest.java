@@ -1,4 +1,8 @@
+import java.util.Comparator;
+import java.util.HashSet;
+import java.util.PriorityQueue;
 import java.util.Random;
+import java.util.Set;
 
 /** Searches against plain ones that try everything, on seas made by a fixed seed. */
 final class SearchTest {
@@ -11,21 +15,29 @@ final class SearchTest {
     public static void main(String[] args) {
         Random random = new Random(20261118);
         for (int i = 0; i < 250; i++) {
-            PorridgeSea x = Due.made(seaText(random));
+            PorridgeSea x = Due.made(seaText(random, 4));
             ways(x);
             meetings(x, random);
             sunkCells(x, random);
             fleets(x);
         }
+        for (int i = 0; i < 400; i++) {
+            PorridgeSea x = Due.made(seaText(random, 6));
+            sunkCells(x, random);
+            waysOverAllCells(x);
+        }
+        everyMeeting();
         Due.close("SearchTest");
     }
 
-    private static String seaText(Random random) {
-        int wide = 2 + random.nextInt(3);
-        int high = 2 + random.nextInt(3);
+    private static String seaText(Random random, int most) {
+        int wide = 2 + random.nextInt(most - 1);
+        int high = 2 + random.nextInt(most - 1);
         StringBuilder text = new StringBuilder("sea " + wide + " " + high + ";");
+        // Many thin cells make many ways that cost the same.
+        int thin = random.nextInt(3);
         for (int cell = 0; cell < wide * high; cell++) {
-            int thick = random.nextInt(10);
+            int thick = random.nextInt(3) < thin ? 0 : random.nextInt(10);
             if (thick > 0) {
                 text.append("thick " + cell % wide + " " + cell / wide + " " + thick + ";");
             }
@@ -94,6 +106,92 @@ final class SearchTest {
             left -= x.cost(column, row);
         }
         return days;
+    }
+
+    // ---- WAY again: partial ways from the best on, first to come to a cell is best there ----
+
+    private record Path(int column, int row, int cost, String sides) {
+    }
+
+    private static void waysOverAllCells(PorridgeSea x) {
+        for (int b = 0; b < x.count(3); b++) {
+            Path best = bestPath(x, b);
+            Due.due("way over all cells", x.way(b, 0), best == null ? -1 : best.cost);
+            if (best != null) {
+                Due.due("its SIDES", Due.sides(x), best.sides);
+            }
+        }
+    }
+
+    private static Path bestPath(PorridgeSea x, int b) {
+        PriorityQueue<Path> open = new PriorityQueue<>(Comparator.comparingInt(Path::cost)
+                .thenComparingInt(path -> path.sides.length()).thenComparing(Path::sides));
+        Set<Integer> seen = new HashSet<>();
+        open.add(new Path(x.boat(b, 0), x.boat(b, 1), 0, ""));
+        while (!open.isEmpty()) {
+            Path path = open.poll();
+            if (path.column == x.lump(0, 0) && path.row == x.lump(0, 1)) {
+                return path;
+            }
+            boolean first = seen.add(6 * path.row + path.column);
+            for (int side = 0; first && side < 4; side++) {
+                int price = x.cost(path.column + DX[side], path.row + DY[side]);
+                if (price > 0 && price <= x.boat(b, 3)) {
+                    open.add(new Path(path.column + DX[side], path.row + DY[side], path.cost + price,
+                            path.sides + side));
+                }
+            }
+        }
+        return null;
+    }
+
+    // ---- MEET: every pair of cells in every size ----
+
+    private static void everyMeeting() {
+        for (int wide = 2; wide <= 6; wide++) {
+            for (int high = 2; high <= 6; high++) {
+                for (int pair = 0; pair < wide * high * wide * high; pair++) {
+                    meetingOf(wide, high, pair % (wide * high), pair / (wide * high));
+                }
+            }
+        }
+    }
+
+    private static void meetingOf(int wide, int high, int boat, int lump) {
+        int[] at = {boat % wide, boat / wide, lump % wide, lump / wide};
+        PorridgeSea x = new PorridgeSea();
+        String text = "sea " + wide + " " + high + ";boat b " + at[0] + " " + at[1] + " 0 1;lump l " + at[2] + " " + at[3]
+                + ";";
+        Due.sea(x, text);
+        String want = null;
+        for (int most = 0; most <= 3 && want == null; most++) {
+            want = stirsTo(new int[] {wide, high}, at, most);
+        }
+        Due.due("meet of " + text, x.meet(0, 0), want == null ? -1 : want.length() / 4);
+        Due.due("its STIRS of " + text, Due.stirs(x), want == null ? "" : want.trim());
+    }
+
+    private static String stirsTo(int[] size, int[] at, int left) {
+        if (left == 0) {
+            return Math.abs(at[0] - at[2]) + Math.abs(at[1] - at[3]) <= 1 ? "" : null;
+        }
+        for (int column = 0; column < 2; column++) {
+            for (int n = 0; n < size[1 - column]; n++) {
+                for (int back = 0; back < 2; back++) {
+                    int[] then = at.clone();
+                    for (int i = 0; i < 4; i += 2) {
+                        if (at[i + 1 - column] == n) {
+                            then[i + column] = Math.floorMod(at[i + column] + 1 - 2 * back, size[column]);
+                        }
+                    }
+                    String rest = stirsTo(size, then, left - 1);
+                    if (rest != null) {
+                        return column + "" + n + back + " " + rest;
+                    }
+                }
+            }
+        }
+        return null;
     }
 
     // ---- MEET: every run of STIRS, done by stir() and undone ----
