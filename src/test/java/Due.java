@@ -210,4 +210,30 @@ final class Due {
         }
         return text.toString();
     }
+
+    /** What the questions answer as the SEA is; what way(), meet() and fleet() told last is theirs then. */
+    static String questions(PorridgeSea x) {
+        StringBuilder text = new StringBuilder();
+        for (int row = -1; row <= 6; row++) {
+            for (int column = -1; column <= 6; column++) {
+                text.append(x.cost(column, row)).append(' ');
+            }
+        }
+        for (int row = 0; row < x.count(1); row++) {
+            text.append(" m").append(x.mean(row, 0)).append('/').append(x.mean(row, 1));
+        }
+        for (int l = 0; l < 6; l++) {
+            text.append(" l").append(x.land(l));
+            for (int b = 0; b < 6; b++) {
+                text.append(' ').append(x.way(b, l)).append(sides(x)).append(' ').append(x.meet(b, l)).append(stirs(x));
+            }
+        }
+        for (int b = 0; b < 6; b++) {
+            text.append(" b").append(x.odds(b, 3, 99)).append(chart(x, b));
+        }
+        for (int n = 1; n <= 54; n++) {
+            text.append(' ').append(x.fleet(n)).append(' ').append(x.fleets());
+        }
+        return text.append(" s").append(x.skin()).toString();
+    }
 }

@@ -342,13 +342,73 @@ final class SeaEdgeTest {
             "heat 1;cools 1;skin 30;heat 1;", "sea 2 2"};
         for (String text : faults) {
             String before = Due.state(x);
+            String asked = Due.questions(x);
             Due.due("a FAULT", Due.sea(x, text) < 0, true);
             Due.due("it stays", Due.state(x), before);
             Due.due("the SENTENCE stays", x.said(0), 0);
             Due.due("the NAME stays", Due.chart(x, 0), "cup at 1 0 sinks 2");
+            Due.due("the NAMES stay in a SENTENCE", Due.sentence(x, "by rock"), 1);
+            Due.due("a FAULT", Due.sea(x, text) < 0, true);
+            Due.due("the NAMES stay in a BOOK", Due.book(x, "cup east;cup west;", 0), -1);
+            Due.due("a FAULT", Due.sea(x, text) < 0, true);
+            Due.due("what is asked stays", Due.questions(x), asked);
         }
         Due.due("acts can be undone", x.undo(), 1);
         Due.due("acts can be undone", x.undo(), 0);
+        PorridgeSea y = Due.made("sea 5 5;thick 4 0 3;thick 4 4 2;lump rock 1 1;boat cup 0 0 9 9;heat 20;");
+        String[] others = {"?", "sea 2 2;heat 30;cools 0;skin 0;?", "sea 6 6;heat 0;cools 5;skin 30;thick 5 5 9;"
+                + "lump a 0 0;lump b 0 1;boat c 0 0 9 1;boat d 0 0 9 1;?"};
+        for (String text : others) {
+            questionsStay(x, text, 1);
+            questionsStay(y, text, 4);
+        }
+    }
+
+    /** Each question by itself, right behind a SEA with a FAULT. */
+    private static void questionsStay(PorridgeSea x, String text, int lastRow) {
+        int[] before = new int[14];
+        int[] behind = new int[14];
+        for (int i = 0; i < before.length; i++) {
+            before[i] = ask(x, i, lastRow);
+        }
+        for (int i = 0; i < behind.length; i++) {
+            Due.due("a FAULT", Due.sea(x, text) < 0, true);
+            behind[i] = ask(x, i, lastRow);
+            Due.due("question " + i + " behind '" + text + "'", behind[i], before[i]);
+        }
+    }
+
+    private static int ask(PorridgeSea x, int question, int lastRow) {
+        switch (question) {
+            case 0:
+                return x.cost(2, 1);
+            case 1:
+                return x.cost(3, 2);
+            case 2:
+                return x.skin();
+            case 3:
+                return x.land(0);
+            case 4:
+                return x.land(1);
+            case 5:
+                return x.mean(0, 0);
+            case 6:
+                return x.mean(lastRow, 0);
+            case 7:
+                return x.fleet(9);
+            case 8:
+                return x.odds(0, 30, 1);
+            case 9:
+                return x.odds(1, 30, 1);
+            case 10:
+                return x.way(0, 0);
+            case 11:
+                return x.meet(0, 0);
+            case 12:
+                return Due.sentence(x, "by rock");
+            default:
+                return Due.sunk(x, 0, 1);
+        }
     }
 
     /** "A new SEA: DAY 0, no BOAT has sunk or been rowed, no SENTENCE." */
