@@ -14,6 +14,8 @@ final class AnyCallTest {
             + "fault 0, feed 5, fleet 1, fleets 0, flour 3, image 1, land 1, lump 2, mean 2, meet 2, meetAt 2, milk 3, "
             + "now 1, odds 3, restore 1, row 2, said 1, sea 0, send 0, sentence 0, skin 0, stir 3, stove 1, sunk 0, "
             + "sunkAt 1, thick 2, told 1, undo 0, way 2, wayAt 1, wayDays 0";
+    /** The calls after which the SEA may be another. */
+    private static final String ACTS = " sea stir row flour milk stove days undo drawn book restore ";
     private static final int[] ODD = {Integer.MIN_VALUE, Integer.MIN_VALUE + 1, -1000, -2, -1, 7, 60, 61, 255, 1000,
         Integer.MAX_VALUE - 1, Integer.MAX_VALUE};
     private static final String[] WORDS = {"sea", "thick", "lump", "boat", "heat", "cools", "skin", "stir", "row",
@@ -120,6 +122,9 @@ final class AnyCallTest {
         String before = Due.state(x);
         try {
             call.invoke(x, arguments);
+            if (!ACTS.contains(" " + call.getName() + " ")) {
+                Due.due(call.getName() + Arrays.toString(arguments) + " is no act", Due.state(x), before);
+            }
         } catch (InvocationTargetException e) {
             boolean may = call.getName().equals("boat") || call.getName().equals("mean");
             Due.due(call.getName() + Arrays.toString(arguments) + " throws " + e.getCause(),

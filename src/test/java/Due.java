@@ -211,6 +211,30 @@ final class Due {
         return text.toString();
     }
 
+    /** All that can be seen without a change: the SEA as it is, the tape, and what calls told last. */
+    static String all(PorridgeSea x) {
+        StringBuilder text = new StringBuilder(state(x));
+        text.append(" tape ").append(x.count(6)).append(" fault ").append(x.fault());
+        text.append(" way ").append(sides(x)).append(' ').append(x.wayDays());
+        text.append(" meet ").append(stirs(x)).append(" sunk");
+        for (int k = 0; x.sunkAt(k) != PorridgeSea.NONE; k++) {
+            text.append(' ').append(x.sunkAt(k));
+        }
+        text.append(" send ").append(x.send()).append(" fleet ").append(x.fleets()).append(" chart ");
+        for (int i = 0; x.byteAt(i) != PorridgeSea.NONE; i++) {
+            text.append((char) x.byteAt(i));
+        }
+        text.append(" told");
+        for (int what = 0; what < 4; what++) {
+            text.append(' ').append(x.told(what));
+        }
+        text.append(" said ").append(x.said(-1));
+        for (int k = 0; x.said(k) != PorridgeSea.NONE; k++) {
+            text.append(' ').append(x.said(k));
+        }
+        return text.toString();
+    }
+
     /** What the questions answer as the SEA is; what way(), meet() and fleet() told last is theirs then. */
     static String questions(PorridgeSea x) {
         StringBuilder text = new StringBuilder();
