@@ -6,9 +6,6 @@ import java.util.Random;
 /** Texts made by a fixed seed, whole and spoiled, read by the class and by the model: one answer. */
 final class ModelTest {
     private static final int[] MOST = {900, 400, 200};
-    private static final String[] POOL = ("sea thick lump boat heat cools skin stir row column on back east south west "
-            + "north flour milk stove day or and not eaten afloat landed by load depth left number rock isle cup mug ; ; "
-            + "< = > ( ) . ? abcdefgh 1a 0 1 2 3 4 5 6 7 9 10 20 21 30 31 60 61 999 1000").split(" ");
     private static final String SEA = "sea 4 3;heat 20;cools 1;skin 3;thick 1 1 4;thick 2 0 9;lump rock 1 1;"
             + "lump isle 3 2;boat cup 0 0 3 4;boat mug 2 0 5 2;boat pan 1 1 9 9;boat tin 3 0 0 1;";
     private static final Map<String, String> NAMES = Map.of("rock", "l0", "isle", "l1", "cup", "b0", "mug", "b1",
@@ -22,134 +19,14 @@ final class ModelTest {
     public static void main(String[] args) {
         Random random = new Random(41);
         for (int i = 0; i < 6000; i++) {
-            seaBoth(text(seaTokens(random), 900, random));
-            bookBoth(text(bookTokens(random), 400, random), random);
-            sentenceBoth(text(sentenceTokens(random), 200, random), random);
+            seaBoth(Texts.sea(random));
+            bookBoth(Texts.book(random, "cup|mug|pan|tin"), random);
+            sentenceBoth(Texts.sentence(random, "rock|isle"), random);
         }
         for (int kind = 0; kind < 5; kind++) {
             Due.due("kind " + kind + " was among them", KINDS[kind] > 30, true);
         }
         Due.close("ModelTest");
-    }
-
-    // ---- texts ----
-
-    private static String any(Random random, String choices) {
-        String[] parts = choices.split("\\|");
-        return parts[random.nextInt(parts.length)];
-    }
-
-    private static void add(List<String> tokens, String line) {
-        tokens.addAll(List.of(line.split(" ")));
-    }
-
-    private static List<String> seaTokens(Random random) {
-        List<String> tokens = new ArrayList<>();
-        int wide = 2 + random.nextInt(5);
-        int high = 2 + random.nextInt(5);
-        add(tokens, "sea " + wide + " " + high + " ;");
-        int lines = random.nextInt(random.nextInt(4) == 0 ? 40 : 10);
-        String once = "";
-        for (int i = 0; i < lines; i++) {
-            String cell = random.nextInt(wide) + " " + random.nextInt(high);
-            String name = "" + (char) ('a' + i % 26) + "bcdefg".substring(random.nextInt(7));
-            String line = any(random, "thick|thick|lump|boat|heat|cools|skin");
-            if (line.equals("thick")) {
-                add(tokens, "thick " + cell + " " + (1 + random.nextInt(9)) + " ;");
-            } else if (line.equals("lump")) {
-                add(tokens, "lump " + name + " " + cell + " ;");
-            } else if (line.equals("boat")) {
-                add(tokens, "boat " + name + " " + cell + " " + random.nextInt(10) + " " + (1 + random.nextInt(9)) + " ;");
-            } else if (!once.contains(line) || random.nextInt(20) == 0) {
-                once += line;
-                add(tokens, line + " " + random.nextInt(line.equals("cools") ? 6 : 31) + " ;");
-            }
-        }
-        return tokens;
-    }
-
-    private static List<String> bookTokens(Random random) {
-        List<String> tokens = new ArrayList<>();
-        int lines = random.nextInt(4) == 0 ? 36 + random.nextInt(8) : random.nextInt(12);
-        for (int i = 0; i < lines; i++) {
-            String line = any(random, lines > 30 ? "day|tin|stove" : "stir|cup|mug|pan|tin|flour|milk|stove|day");
-            switch (line) {
-                case "stir" -> add(tokens, "stir " + any(random, "row|column") + " " + random.nextInt(6) + " "
-                        + any(random, "on|back") + " ;");
-                case "flour", "milk" -> add(tokens, line + " " + random.nextInt(5) + " " + random.nextInt(4) + " "
-                        + (1 + random.nextInt(9)) + " ;");
-                case "stove" -> add(tokens, "stove " + (1 + random.nextInt(20)) + " ;");
-                case "day" -> add(tokens, "day " + (1 + random.nextInt(random.nextInt(6) == 0 ? 60 : 3)) + " ;");
-                default -> add(tokens, line + " " + any(random, TextModel.SIDES) + " ;");
-            }
-        }
-        return tokens;
-    }
-
-    private static List<String> sentenceTokens(Random random) {
-        List<String> tokens = new ArrayList<>();
-        condTokens(tokens, random, random.nextInt(10));
-        return tokens;
-    }
-
-    private static void condTokens(List<String> tokens, Random random, int deep) {
-        int parts = 1 + random.nextInt(random.nextInt(6) == 0 ? 5 : 2);
-        for (int i = 0; i < parts; i++) {
-            if (i > 0) {
-                tokens.add(any(random, "or|and"));
-            }
-            oneTokens(tokens, random, deep - random.nextInt(3));
-        }
-    }
-
-    private static void oneTokens(List<String> tokens, Random random, int deep) {
-        if (deep > 0 && tokens.size() < 60) {
-            if (random.nextBoolean()) {
-                tokens.add("not");
-                oneTokens(tokens, random, deep - 1);
-            } else {
-                tokens.add("(");
-                condTokens(tokens, random, deep - 1);
-                tokens.add(")");
-            }
-            return;
-        }
-        String word = any(random, "eaten|afloat|landed|by|load|depth|left|number");
-        tokens.add(word);
-        if (word.equals("by")) {
-            tokens.add(any(random, "rock|isle"));
-        } else if ("load|depth|left|number".contains(word)) {
-            tokens.add(any(random, "<|=|>"));
-            tokens.add("" + random.nextInt(random.nextInt(9) == 0 ? 1000 : 7));
-        }
-    }
-
-    /** The TOKENS as a text, spoiled or not, long or not. */
-    private static String text(List<String> tokens, int most, Random random) {
-        int edits = Math.max(0, random.nextInt(4) - 1);
-        for (int i = 0; i < edits && !tokens.isEmpty(); i++) {
-            int where = random.nextInt(tokens.size());
-            switch (random.nextInt(4)) {
-                case 0 -> tokens.set(where, POOL[random.nextInt(POOL.length)]);
-                case 1 -> tokens.add(where, POOL[random.nextInt(POOL.length)]);
-                case 2 -> tokens.remove(where);
-                default -> tokens.set(where, tokens.get(random.nextInt(tokens.size())));
-            }
-        }
-        StringBuilder text = new StringBuilder();
-        int blank = random.nextInt(30);
-        for (String token : tokens) {
-            boolean tight = text.length() > 0 && ";()<=>".indexOf(text.charAt(text.length() - 1)) >= 0
-                    || ";()<=>".contains(token);
-            text.append(tight && random.nextInt(3) > 0 ? "" : blank == 0 && random.nextInt(9) == 0 ? "" : " \n".substring(
-                    random.nextInt(2), 2)).append(token);
-        }
-        if (random.nextInt(5) == 0) {
-            int want = Math.min(940, most - 6 + random.nextInt(14));
-            int gap = text.indexOf(" ", random.nextInt(text.length() + 1));
-            text.insert(Math.max(0, gap), " ".repeat(Math.max(0, want - text.length())));
-        }
-        return text.length() > 940 ? text.substring(0, 940) : text.toString();
     }
 
     // ---- both answers ----
@@ -309,7 +186,7 @@ final class ModelTest {
         int answer = Due.sentence(x, text);
         TextModel.Judge judge;
         try {
-            judge = model.readSentence(x);
+            judge = model.readSentence(factsOf(x));
         } catch (TextModel.Fault fault) {
             faultBoth(x, text, answer, -1, fault);
             Due.due("no SENTENCE", x.said(-1), -1);
@@ -326,5 +203,24 @@ final class ModelTest {
         }
         Due.due("'" + text + "' said of", x.said(-1), said);
         Due.due("none behind them", x.said(said), -1);
+    }
+
+    private static TextModel.Facts factsOf(PorridgeSea x) {
+        return new TextModel.Facts() {
+            @Override
+            public int ofBoat(int b, int what) {
+                return x.boat(b, what);
+            }
+
+            @Override
+            public int ofLump(int l, int what) {
+                return x.lump(l, what);
+            }
+
+            @Override
+            public int lumps() {
+                return x.count(2);
+            }
+        };
     }
 }

@@ -204,7 +204,16 @@ final class TextModel {
         boolean holds(int b);
     }
 
-    Judge readSentence(PorridgeSea x) {
+    /** What a SENTENCE asks of the SEA as it is: numbers as boat(), lump() and count() tell them. */
+    interface Facts {
+        int ofBoat(int b, int what);
+
+        int ofLump(int l, int what);
+
+        int lumps();
+    }
+
+    Judge readSentence(Facts x) {
         Judge whole = cond(x, 1);
         if (next().sort != '$') {
             throw fault(1);
@@ -212,7 +221,7 @@ final class TextModel {
         return whole;
     }
 
-    private Judge cond(PorridgeSea x, int deep) {
+    private Judge cond(Facts x, int deep) {
         Judge first = all(x, deep);
         if (!next().text.equals("or")) {
             return first;
@@ -222,7 +231,7 @@ final class TextModel {
         return b -> first.holds(b) || rest.holds(b);
     }
 
-    private Judge all(PorridgeSea x, int deep) {
+    private Judge all(Facts x, int deep) {
         Judge first = one(x, deep);
         if (!next().text.equals("and")) {
             return first;
@@ -232,7 +241,7 @@ final class TextModel {
         return b -> first.holds(b) && rest.holds(b);
     }
 
-    private Judge one(PorridgeSea x, int deep) {
+    private Judge one(Facts x, int deep) {
         String word = next().text;
         if (!List.of("not|(|eaten|afloat|landed|by|load|depth|left|number".split("\\|")).contains(word)) {
             throw fault(1);
@@ -254,9 +263,9 @@ final class TextModel {
                 int l = lump();
                 return b -> off(x, b, l) <= 1;
             case "eaten":
-                return b -> x.boat(b, 6) == 1;
+                return b -> x.ofBoat(b, 6) == 1;
             case "afloat":
-                return b -> x.boat(b, 7) == 1;
+                return b -> x.ofBoat(b, 7) == 1;
             case "landed":
                 return b -> isLanded(x, b);
             default:
@@ -278,21 +287,21 @@ final class TextModel {
         return sort.charAt(1) - '0';
     }
 
-    private static int off(PorridgeSea x, int b, int l) {
-        return Math.abs(x.boat(b, 0) - x.lump(l, 0)) + Math.abs(x.boat(b, 1) - x.lump(l, 1));
+    private static int off(Facts x, int b, int l) {
+        return Math.abs(x.ofBoat(b, 0) - x.ofLump(l, 0)) + Math.abs(x.ofBoat(b, 1) - x.ofLump(l, 1));
     }
 
-    private static boolean isLanded(PorridgeSea x, int b) {
+    private static boolean isLanded(Facts x, int b) {
         boolean landed = false;
-        for (int l = 0; l < x.count(2); l++) {
+        for (int l = 0; l < x.lumps(); l++) {
             landed |= off(x, b, l) == 0;
         }
         return landed;
     }
 
-    private static int fact(PorridgeSea x, int b, String word) {
-        return word.equals("load") ? x.boat(b, 2) : word.equals("depth") ? x.boat(b, 5)
-                : word.equals("left") ? x.boat(b, 4) : b;
+    private static int fact(Facts x, int b, String word) {
+        return word.equals("load") ? x.ofBoat(b, 2) : word.equals("depth") ? x.ofBoat(b, 5)
+                : word.equals("left") ? x.ofBoat(b, 4) : b;
     }
 
     private static boolean compares(int value, String sign, int n) {
