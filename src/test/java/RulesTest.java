@@ -1,5 +1,6 @@
 import java.lang.management.ManagementFactory;
 import java.lang.reflect.Array;
+import java.lang.reflect.Executable;
 import java.lang.reflect.Field;
 import java.lang.reflect.Method;
 import java.lang.reflect.Modifier;
@@ -14,6 +15,7 @@ import java.util.IdentityHashMap;
 import java.util.List;
 import java.util.NoSuchElementException;
 import java.util.Set;
+import java.util.TreeSet;
 
 /** What of LANGUAGE.md can be seen by looking at the class, and how much room an object takes. */
 final class RulesTest {
@@ -29,6 +31,7 @@ final class RulesTest {
 
     public static void main(String[] args) throws Exception {
         String source = Files.readString(SOURCE);
+        face(Files.readString(Path.of("../shared/DOC.md")));
         written(source);
         shortMethods(source);
         List<Class<?>> classes = new ArrayList<>(List.of(PorridgeSea.class.getDeclaredClasses()));
@@ -44,6 +47,36 @@ final class RulesTest {
         room();
         callsMakeNothing();
         Due.close("RulesTest");
+    }
+
+    // ---- the face ----
+
+    /** The face as the document writes it, without the names of parameters, and as the class has it. */
+    private static void face(String document) {
+        String block = document.substring(document.indexOf("public final class PorridgeSea {"));
+        Set<String> want = new TreeSet<>();
+        for (String line : block.substring(0, block.indexOf("```")).split("\n")) {
+            String plain = line.trim().replaceAll("(int|boolean) [a-z]+(?=[,)])", "$1");
+            if (plain.endsWith(");") || plain.endsWith("Exception;")) {
+                want.add(plain.substring(0, plain.length() - 1));
+            }
+        }
+        Set<String> got = new TreeSet<>();
+        for (Executable each : PorridgeSea.class.getConstructors()) {
+            got.add(plain(each));
+        }
+        for (Executable each : PorridgeSea.class.getDeclaredMethods()) {
+            if (!Modifier.isPrivate(each.getModifiers())) {
+                got.add(plain(each));
+            }
+        }
+        Due.due("what the document's face has", want.size(), 41);
+        Due.due("the face", got.toString(), want.toString());
+        Due.due("NONE", PorridgeSea.NONE, -1);
+    }
+
+    private static String plain(Executable each) {
+        return each.toGenericString().replace("PorridgeSea.", "").replace(",", ", ").replace("java.util.", "");
     }
 
     // ---- the text ----
