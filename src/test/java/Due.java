@@ -65,7 +65,7 @@ final class Due {
         }
     }
 
-    /** Puts bytes on an empty tape. */
+    /** Puts bytes on an empty tape; what stands behind its end then would lengthen a TOKEN, and is no pair. */
     static PorridgeSea tape(PorridgeSea x, byte[] bytes) {
         for (int i = 0; i < bytes.length; i += 20) {
             x.feed(four(bytes, i), four(bytes, i + 4), four(bytes, i + 8), four(bytes, i + 12), four(bytes, i + 16));
@@ -77,7 +77,7 @@ final class Due {
     private static int four(byte[] bytes, int from) {
         int value = 0;
         for (int i = from; i < from + 4; i++) {
-            value = value << 8 | (i < bytes.length ? bytes[i] & 255 : 0);
+            value = value << 8 | (i < bytes.length ? bytes[i] & 255 : '7');
         }
         return value;
     }

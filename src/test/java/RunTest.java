@@ -97,12 +97,13 @@ final class RunTest {
 
     /** A text comes behind the tape and, mostly, is read. */
     private void text(String text, String call, Object... arguments) throws Exception {
-        byte[] bytes = Arrays.copyOf(text.getBytes(StandardCharsets.ISO_8859_1), (text.length() + 19) / 20 * 20);
+        String behind = ("77;a " + text).substring(random.nextInt(5)).repeat(20).substring(0, 20);
+        byte[] bytes = (text + behind).getBytes(StandardCharsets.ISO_8859_1);
         if (random.nextInt(12) > 0) {
             both("end", 0);
         }
         int ahead = sea.count(6);
-        for (int i = 0; i < bytes.length; i += 20) {
+        for (int i = 0; i < text.length(); i += 20) {
             Object[] five = new Object[5];
             for (int j = 0; j < 5; j++) {
                 int at = i + 4 * j;
